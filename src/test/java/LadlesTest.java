@@ -122,25 +122,25 @@ public final class LadlesTest {
     }
 
     private static void soldAtMost() {
-        NoonShade x = Check.island(12, new int[][] {{5, 9, 0}, {5, 9, 0}, {5, 9, 0}, {5, 9, 0}}, 5);
-        x.ladle(0, 0);
-        x.ladle(1, 0);
-        x.ladle(2, 0);
-        x.ladle(3, 0);
-        for (int sales = 1; sales <= 83; sales++) {
-            due("10 sale " + sales, x.sells(0), 120);
-            x.hours(24);
-            for (int i = 0; i < 4; i++) {
-                x.ladle(i, 0);
+        int[] pergola = {5, 9, 0};
+        NoonShade x = Check.island(12, new int[][] {pergola, pergola, pergola, pergola, pergola, pergola, pergola}, 0, 0);
+        for (int day = 1; day <= 45; day++) {
+            for (int i = 0; i < 7; i++) {
+                x.ladle(i, i / 4);
             }
+            due("10 twice sixty", x.sells(0), 120);
+            due("10 twice 51", x.sells(1), 102);
+            x.hours(24);
         }
-        due("10 sold", x.count(5), 9960);
-        due("10 no more than fits", x.sells(0), 39);
-        due("10 at most", x.count(5), 9999);
-        x.hours(24);
+        due("10 sold", x.count(5), 9990);
         x.ladle(0, 0);
-        due("10 none fits", x.sells(0), 0);
-        due("10 the jar is empty all the same", x.about(0, 1), 0);
+        x.ladle(1, 1);
+        due("10 no more than fits", x.sells(0), 9);
+        due("10 at most", x.count(5), 9999);
+        due("10 none fits", x.sells(1), 0);
+        due("10 the jar is empty all the same", x.about(1, 1), 0);
+        due("10 the last two undone", x.undo() - x.undo(), 0);
+        due("10 sold then", x.count(5), 9990);
     }
 
     private static void hours() {

@@ -129,6 +129,9 @@ public final class HowMuchTest {
         due("19 all milked: none", x.round(0, 1, 0), -1);
         due("19 all milked, an hour on they are not", x.round(0, 2, 1), 1);
         due("19 how much", x.round(0, 2, -2), 27);
+        // stone keeps at 4 and 5, loses at 6: 10 and 10 and 0, less 1
+        NoonShade dawn = Check.island(4, new int[][] {{3, 9, 0}}, 2);
+        due("19 each hour of the day counts by itself", dawn.round(0, 3, -2), 19);
         NoonShade none = Check.island(10, new int[][] {}, 0);
         due("19 no casters: none", none.round(0, 4, 3), -1);
         due("19 no casters: nothing", none.round(0, 4, -2), 0);
@@ -217,6 +220,14 @@ public final class HowMuchTest {
         due("20 another taste", x.few(0, 2, 1, 0), -1);
         x.ladle(3, 0);
         due("20 mixed", x.few(0, 1, 1, 0), -1);
+        x.island(12);
+        x.caster(0, 1, 2);
+        x.caster(0, 9, 1);
+        x.jar(0);
+        x.ladle(0, 0);
+        due("20 one of another taste is enough to bar it", x.few(0, 1, 2, 0), -1);
+        due("20 its own taste has it", x.few(0, 2, 1, 0), 0);
+        x.jar(1);
         due("20 none of these is refused", x.status(0), 0);
         int[][] bad = {{2, 1, 1, 0}, {-1, 1, 1, 0}, {0, -1, 1, 0}, {0, 4, 1, 0}, {0, 1, 0, 0}, {0, 1, 61, 0}, {0, 1, 1, -1}, {0, 1, 1, 2}};
         for (int[] b : bad) {
@@ -239,6 +250,10 @@ public final class HowMuchTest {
         due("21 what the other one has counts, too", x.into(0, 1, 1), 19);
         due("21 glass, which loses its three but once", x.into(0, 1, 0), 1);
         due("21 nothing changed", x.count(8), 2);
+        NoonShade back = Check.island(12, new int[][] {{5, 9, 0}}, 0, 4);
+        back.ladle(0, 1);
+        due("21 the first jar", back.into(1, 1, 0), 0);
+        due("21 how much", back.into(1, 1, 1), 16);
         NoonShade one = Check.island(12, new int[][] {{5, 9, 0}}, 0);
         one.ladle(0, 0);
         due("21 no other", one.into(0, 1, 0), -1);

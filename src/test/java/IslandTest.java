@@ -11,6 +11,8 @@ public final class IslandTest {
         clear();
         readItems();
         readFaults();
+        readOverAnOlderText();
+        readAFullText();
         readTakesThePlace();
         CHECK.finish("IslandTest");
     }
@@ -104,6 +106,8 @@ public final class IslandTest {
         }
         due("4 a fifth", x.jar(0), -4);
         due("4 a fifth, and bad", x.jar(6), -2);
+        due("4 bads", x.status(0), 3);
+        due("4 fulls", x.status(2), 1);
         for (int j = 0; j < 4; j++) {
             due("4 kind of " + j, x.about(j, 0), 5 - j);
             due("4 cool of " + j, x.about(j, 1), 0);
@@ -166,6 +170,9 @@ public final class IslandTest {
         due("7 milked", x.count(4), 1);
         due("7 the text stays", x.count(9) > 0 ? 1 : 0, 1);
         due("7 reads again", x.read(), 10);
+        Check.read(x, "island 12;caster 0 9 1;caster 0 3 2;jar 0;jar 0;ladle 1 0;ladle 0 1;");
+        due("7 the second caster, the first jar", x.about(0, 1), 2);
+        due("7 the first caster, the second jar", x.about(1, 1), 5);
         due("7 hours 99", Check.read(x, "island 0;hours 99;hours 1;"), 3);
         due("7 hour", x.count(3), 100);
         due("7 seven casters", Check.read(x, "island 0;caster 0 1 0;caster 1 9 3;caster 2 1 0;caster 3 1 0;caster 4 1 0;caster 5 1 0;caster 0 1 0;"), 8);
@@ -194,6 +201,10 @@ public final class IslandTest {
         fault("island 3;jar 1 ", 15);
         fault("islan 3;", 0);
         fault("islands 3;", 0);
+        fault("islandz 3;", 0);
+        fault("xsland 3;", 0);
+        fault("islanx 3;", 0);
+        fault("islandA 3;", 6);
         fault(" Island 3;", 1);
         fault("iSland 3;", 0);
         fault("jar 0;", 0);
@@ -233,6 +244,35 @@ public final class IslandTest {
         fault("island 3;sells 0;", 9);
         fault("island 0;caster 0 1 0;caster 0 1 0;caster 0 1 0;caster 0 1 0;caster 0 1 0;caster 0 1 0;caster 0 1 0;caster 9", 100);
         fault("island 3;caster 1a 1 1;", 17);
+    }
+
+    /** What an older, longer text had behind the new one's end is no part of it. */
+    private static void readOverAnOlderText() {
+        NoonShade x = new NoonShade();
+        Check.type(x, "island 3;jar 4;");
+        due("7 a figure was behind it", Check.read(x, "island 3;jar"), -22);
+        due("7 a blank was behind it", Check.read(x, "island"), -16);
+        Check.type(x, "islands 3;");
+        due("7 a letter was behind it", Check.read(x, "island"), -16);
+        Check.type(x, "island 333;");
+        due("7 figures were behind it", Check.read(x, "island 3"), -18);
+        Check.type(x, "island 3  ;jar 1;");
+        due("7 an item was behind it", Check.read(x, "island 3 "), -19);
+        due("7 an item was behind it", Check.read(x, "island 3;"), 1);
+    }
+
+    private static void readAFullText() {
+        String blanks = " ".repeat(150);
+        for (String end : new String[] {"jar", "jar 1", "jar 1 ", "island", "12", "x", ";", "jar 1;", " "}) {
+            String text = "island 3;" + blanks.substring(9 + end.length()) + end;
+            NoonShade x = new NoonShade();
+            int answer = Check.read(x, text);
+            boolean inItem = end.startsWith("jar") && !end.endsWith(";");
+            int items = end.equals("jar 1;") ? 2 : 1;
+            boolean whole = end.equals("jar 1;") || end.equals(" ");
+            due("7 150 bytes, at their end \"" + end + "\"", answer, inItem ? -160 : whole ? items : -160 + end.length());
+            due("7 they are 150", x.count(9), 150);
+        }
     }
 
     private static void readTakesThePlace() {

@@ -178,6 +178,8 @@ public final class WhatItIsTest {
         due("29 the same", y.two(0), 0);
         due("29 (0, 1)", y.two(1), 1);
         due("29 (1, 0)", y.two(2), 10);
+        NoonShade early = Check.island(10, new int[][] {{5, 9, 0}, {0, 9, 1}});
+        due("29 what it gives now, not an hour on", early.two(-1), 2);
         NoonShade z = Check.island(12, new int[][] {{5, 9, 0}, {0, 9, 0}});
         due("29 alike tastes: only the same", z.two(-1), 1);
         due("29 the same", z.two(0), 0);
@@ -199,6 +201,9 @@ public final class WhatItIsTest {
         fraction(x, "30 too much", x.spilt(0, 2, 27, 3), 0, 1);
         fraction(x, "30 surely spilt", x.spilt(0, 2, 1, 10), 0, 1);
         fraction(x, "30 never spilt", x.spilt(0, 2, 26, 0), 1, 1);
+        NoonShade dawn = Check.island(4, new int[][] {{3, 9, 0}}, 2);
+        fraction(dawn, "30 at 4, 5 and 6", dawn.spilt(0, 3, 19, 2), 16, 25);
+        fraction(dawn, "30 at 4, 5 and 6", dawn.spilt(0, 3, 20, 2), 0, 1);
         fraction(x, "30 by halves", x.spilt(0, 2, 12, 5), 3, 4);
         fraction(x, "30 four", x.spilt(0, 4, 1, 1), 9999, 10000);
         fraction(x, "30 no round", x.spilt(0, 0, 1, 1), 0, 1);

@@ -6,6 +6,7 @@ public final class WhatThereIsTest {
         part();
         image();
         from();
+        fromWithAll();
         status();
         count();
         digest();
@@ -77,6 +78,25 @@ public final class WhatThereIsTest {
         due("34 all is back", x.digest(), second);
         due("34 the image is not touched by what comes later", x.from(0), 1);
         due("34 all is back", x.digest(), first);
+        x.island(50);
+        for (int k = 0; k < 4; k++) {
+            x.caster(k, k + 2, 3);
+            x.jar(4);
+        }
+        for (int k = 0; k < 6; k++) {
+            x.note(3, 3, 3, 3);
+            x.mark(3, 3, 3, 3);
+            x.hours(1);
+            x.ladle(k % 4, 3);
+        }
+        x.from(0);
+        due("34 all is back behind another island", x.digest(), first);
+        due("34 the sale undone", x.undo(), 12);
+        due("34 its cool", x.about(1, 1), 15);
+        due("34 its taste", x.about(1, 2), 1);
+        due("34 the ladle undone", x.undo(), 12);
+        due("34 the first one undone", x.undo(), 12);
+        due("34 nothing is in the jars", x.count(2), 0);
         x.type('a');
         x.spilt(0, 0, 0, 0);
         x.jar(9);
@@ -87,6 +107,64 @@ public final class WhatThereIsTest {
         x.island(0);
         due("34 images stay behind an island", x.from(1), 1);
         due("34 casters", x.count(0), 4);
+    }
+
+    /** As much as there can be of everything, so that an image that keeps less is seen. */
+    private static void fromWithAll() {
+        NoonShade x = new NoonShade();
+        fillUp(x, 1);
+        long first = x.digest();
+        x.image(0);
+        fillUp(x, 2);
+        long second = x.digest();
+        x.image(1);
+        x.from(0);
+        due("34 the first of two full ones", x.digest(), first);
+        int[] firstBack = undoAll(x);
+        x.from(1);
+        due("34 the second of two full ones", x.digest(), second);
+        int[] secondBack = undoAll(x);
+        for (int k = 0; k < 8; k++) {
+            due("34 cool of the first, back " + k, firstBack[k], coolOf(1, 7 - k));
+            due("34 cool of the second, back " + k, secondBack[k], coolOf(2, 7 - k));
+        }
+    }
+
+    private static void fillUp(NoonShade x, int by) {
+        x.island(12);
+        for (int i = 0; i < 7; i++) {
+            x.caster(i % 2, i % 3 + by, (i + by) % 4);
+        }
+        for (int j = 0; j < 4; j++) {
+            x.jar((j + by) % 6);
+        }
+        for (int k = 0; k < 6; k++) {
+            x.note((k + by) % 7, k % 3 + by, k + by, 7 * k + by);
+            x.mark((k + by) % 4, 9 * k + by, k + by, 9 * k + by);
+        }
+        for (int i = 0; i < 7; i++) {
+            x.ladle(i, i % 4);
+        }
+        x.sells(3);
+    }
+
+    private static int[] undoAll(NoonShade x) {
+        int[] cool = new int[8];
+        for (int k = 0; k < 8; k++) {
+            x.undo();
+            cool[k] = x.count(2);
+        }
+        return cool;
+    }
+
+    /** The cool in all jars behind so many ladles of fillUp. */
+    private static int coolOf(int by, int ladles) {
+        int sum = 0;
+        for (int i = 0; i < ladles; i++) {
+            int h = i % 3 + by;
+            sum += (h + 1) / 2 + (i % 2 == 1 ? h : 0);
+        }
+        return sum;
     }
 
     private static void status() {

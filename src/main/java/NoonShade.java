@@ -1032,6 +1032,7 @@ public final class NoonShade {
             for (int spilt = 0; spilt < 1 << steps; spilt++) {
                 long ways = 1;
                 int left = isle.cool[j];
+                // a step without a ladle leaves the same both ways, and both ways together count ten: the chance is right
                 for (int s = 0; s < steps; s++) {
                     boolean lost = (spilt >> s & 1) != 0;
                     ways *= lost ? c : 10 - c;

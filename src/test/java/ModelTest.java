@@ -36,6 +36,9 @@ public final class ModelTest {
     }
 
     private void go() throws Exception {
+        if (run % 8 == 7) {
+            waitForTheLastHours();
+        }
         while (calls < CALLS && CHECK.allRight()) {
             oneMove();
         }
@@ -43,6 +46,15 @@ public final class ModelTest {
             System.out.println("run " + run + ":");
             log.forEach(System.out::println);
         }
+    }
+
+    /** One run of eight goes on close to hour 9999. */
+    private void waitForTheLastHours() throws Exception {
+        ask("island", 99);
+        for (int k = 0; k < 164; k++) {
+            ask("hours", 60);
+        }
+        ask("hours", 40 + below(20));
     }
 
     private int below(int n) {

@@ -229,9 +229,10 @@ public final class WhatItIsTest {
     }
 
     private static void noons() {
-        NoonShade x = Check.island(12, new int[][] {{1, 9, 0}, {5, 8, 1}, {4, 7, 2}, {3, 6, 3}, {2, 9, 0}, {0, 9, 1}, {1, 1, 2}}, 0, 5, 2, 4);
-        long before = x.digest();
+        int[][] casters = {{1, 9, 0}, {5, 8, 1}, {4, 7, 2}, {3, 6, 3}, {2, 9, 0}, {0, 9, 1}, {1, 1, 2}};
         for (int seed : new int[] {0, 1, 42, 777777, 999999}) {
+            NoonShade x = Check.island(12, casters, 0, 5, 2, 4);
+            long before = x.digest();
             for (int n : new int[] {0, 1, 7, 60}) {
                 x.image(0);
                 due("31 seed " + seed + ", " + n, x.noons(seed, n), noonsByCalls(x, seed, n));
@@ -243,11 +244,11 @@ public final class WhatItIsTest {
         few.image(0);
         due("31 where few are there", few.noons(5, 60), noonsByCalls(few, 5, 60));
         due("31 no casters, no jars", new NoonShade().noons(5, 60), 0);
-        due("31 bad", x.noons(-1, 0), -2);
-        due("31 bad", x.noons(1000000, 0), -2);
-        due("31 bad", x.noons(0, -1), -2);
-        due("31 bad", x.noons(0, 61), -2);
-        due("31 bads", x.status(0), 4);
+        due("31 bad", few.noons(-1, 0), -2);
+        due("31 bad", few.noons(1000000, 0), -2);
+        due("31 bad", few.noons(0, -1), -2);
+        due("31 bad", few.noons(0, 61), -2);
+        due("31 bads", few.status(0), 4);
     }
 
     /** The same noons by ladle and hours, which refuse what is not there or is milked. */
